@@ -48,6 +48,41 @@ final class Due {
         return trace.length > 0 && trace[0].getClassName().startsWith("Rescuemarket");
     }
 
+    /** A sentence of the document with the test of its own; says so if the sentence does not hold. */
+    static void sentence(String words, Runnable test) {
+        int rightBefore = right;
+        int wrongBefore = wrong;
+        test.run();
+        if (wrong > wrongBefore) {
+            System.out.println("DOES NOT HOLD: " + words);
+        } else if (right == rightBefore) {
+            wrong++;
+            System.out.println("HAS NO TEST: " + words);
+        }
+    }
+
+    /** State, call, next hour and fuel of a boat, or the first ones of these. */
+    static void boatIs(String when, Rescuemarket market, int boat, int... due) {
+        for (int what = 0; what < due.length; what++) {
+            is(when + ": boat " + boat + ", " + what, due[what], market.ofBoat(boat, what));
+        }
+    }
+
+    /** State, boat, tasks and reward of a call, or the first ones of these. */
+    static void callIs(String when, Rescuemarket market, int call, int... due) {
+        for (int what = 0; what < due.length; what++) {
+            is(when + ": call " + call + ", " + what, due[what], market.ofCall(call, what));
+        }
+    }
+
+    /** What each club got, told by both of the methods that tell it. */
+    static void gotAre(String when, Rescuemarket market, int... due) {
+        for (int club = 0; club < due.length; club++) {
+            is(when + ": rewards of " + club, due[club], market.rewards(club));
+            is(when + ": rewardsAnew of " + club, due[club], market.rewardsAnew(club));
+        }
+    }
+
     /** Acts that have to fail, and leave all that can be seen as it was. */
     static void changesNothing(String what, Rescuemarket market, Class<?> kind, Act... acts) {
         String before = Sight.of(market);

@@ -7,12 +7,6 @@ public final class Promise10OfCallTest {
         Due.end();
     }
 
-    private static void callIs(Rescuemarket market, int call, int... due) {
-        for (int what = 0; what < due.length; what++) {
-            Due.is("call " + call + ", what " + what, due[what], market.ofCall(call, what));
-        }
-    }
-
     private static void eachOfThreeCalls() {
         Rescuemarket market = new Rescuemarket();
         market.boat(0, 0, 1, 1, 0);
@@ -20,15 +14,15 @@ public final class Promise10OfCallTest {
         market.call(47, 1, 1);
         market.call(11, 9, 20);
         market.call(0, 50, 20);
-        callIs(market, 1, Rescuemarket.OPEN, Rescuemarket.NONE, 0, 0);
+        Due.callIs("asked", market, 1, Rescuemarket.OPEN, Rescuemarket.NONE, 0, 0);
         market.pass(1);
-        callIs(market, 0, Rescuemarket.OPEN, Rescuemarket.NONE, 0, 0);
-        callIs(market, 1, Rescuemarket.TASKED, 1, 1, 0);
-        callIs(market, 2, Rescuemarket.TASKED, 0, 1, 0);
+        Due.callIs("asked", market, 0, Rescuemarket.OPEN, Rescuemarket.NONE, 0, 0);
+        Due.callIs("asked", market, 1, Rescuemarket.TASKED, 1, 1, 0);
+        Due.callIs("asked", market, 2, Rescuemarket.TASKED, 0, 1, 0);
         market.pass(1);
-        callIs(market, 0, Rescuemarket.LOST, Rescuemarket.NONE, 0, 0);
-        callIs(market, 1, Rescuemarket.DONE, 1, 1, 75);
-        callIs(market, 2, Rescuemarket.DONE, 0, 1, 200);
+        Due.callIs("asked", market, 0, Rescuemarket.LOST, Rescuemarket.NONE, 0, 0);
+        Due.callIs("asked", market, 1, Rescuemarket.DONE, 1, 1, 75);
+        Due.callIs("asked", market, 2, Rescuemarket.DONE, 0, 1, 200);
     }
 
     private static void taskedTwice() {
@@ -38,9 +32,9 @@ public final class Promise10OfCallTest {
         market.pass(1);
         market.foretell(3, 3, 4, 4, 1);
         market.pass(1);
-        callIs(market, 0, Rescuemarket.OPEN, 0, 1, 0);
+        Due.callIs("asked", market, 0, Rescuemarket.OPEN, 0, 1, 0);
         market.pass(3);
-        callIs(market, 0, Rescuemarket.LOST, 0, 1, 0);
+        Due.callIs("asked", market, 0, Rescuemarket.LOST, 0, 1, 0);
     }
 
     private static void wrong() {

@@ -9,23 +9,16 @@ public final class Promise11And12RewardsTest {
         Due.end();
     }
 
-    private static void gotAre(String when, Rescuemarket market, int... due) {
-        for (int club = 0; club < 3; club++) {
-            Due.is(when + ": rewards of " + club, due[club], market.rewards(club));
-            Due.is(when + ": rewardsAnew of " + club, due[club], market.rewardsAnew(club));
-        }
-    }
-
     private static void wayAndNeed() {
         Rescuemarket market = new Rescuemarket();
         market.boat(1, 17, 3, 50, 0);
         market.call(36, 6, 9);
         market.pass(1);
-        gotAre("tasked", market, 0, 0, 0);
+        Due.gotAre("tasked", market, 0, 0, 0);
         market.pass(2);
-        gotAre("5 cells, 6 people", market, 0, 80, 0);
+        Due.gotAre("5 cells, 6 people", market, 0, 80, 0);
         market.pass(10);
-        gotAre("paid once", market, 0, 80, 0);
+        Due.gotAre("paid once", market, 0, 80, 0);
     }
 
     private static void halves() {
@@ -43,7 +36,7 @@ public final class Promise11And12RewardsTest {
         market.lend(1, 2);
         market.lend(2, 0);
         market.pass(1);
-        gotAre("25, 20 and 35", market, 12 + 10, 13 + 35, 10);
+        Due.gotAre("25, 20 and 35", market, 12 + 10, 13 + 35, 10);
     }
 
     private static void capped() {
@@ -53,11 +46,11 @@ public final class Promise11And12RewardsTest {
         market.lend(0, 2);
         market.call(1, 50, 9);
         market.pass(2);
-        gotAre("the halves of the cap", market, 37, 0, 38);
+        Due.gotAre("the halves of the cap", market, 37, 0, 38);
         market.cap(0);
-        gotAre("a cap behind it", market, 37, 0, 38);
+        Due.gotAre("a cap behind it", market, 37, 0, 38);
         market.cap(1000);
-        gotAre("a cap behind it", market, 37, 0, 38);
+        Due.gotAre("a cap behind it", market, 37, 0, 38);
     }
 
     private static void turnedBackBringsNothing() {
@@ -68,10 +61,10 @@ public final class Promise11And12RewardsTest {
         market.pass(1);
         market.foretell(2, 2, 3, 3, 1);
         market.pass(1);
-        gotAre("turned back", market, 0, 0, 0);
+        Due.gotAre("turned back", market, 0, 0, 0);
         market.lend(0, 2);
         market.pass(5);
-        gotAre("by the last task", market, 20, 0, 20);
+        Due.gotAre("by the last task", market, 20, 0, 20);
     }
 
     private static void wrong() {
@@ -86,6 +79,6 @@ public final class Promise11And12RewardsTest {
                 () -> market.rewardsAnew(-1),
                 () -> market.rewardsAnew(3),
                 () -> market.rewardsAnew(Integer.MAX_VALUE));
-        gotAre("asked often", market, 40, 0, 0);
+        Due.gotAre("asked often", market, 40, 0, 0);
     }
 }
